@@ -1094,10 +1094,10 @@ public final class Patchferry {
             int value = after.value(run);
             int rest = after.end(run) - place;
             for (int old = 0; old < before.count(); old++) {
-                int have = before.end(old) - before.begin(old);
-                if (before.value(old) != value || Math.min(have, rest) == 0) {
+                if (before.value(old) != value) {
                     continue;
                 }
+                int have = before.end(old) - before.begin(old);
                 int more = have < rest ? 0 : before.alikeFrom(old + 1, after, run + 1);
                 int reach = Math.min(have, rest) + more;
                 if (reach > foundSize) {
@@ -1550,6 +1550,7 @@ public final class Patchferry {
             sums.add(sum);
             uses.add(0);
             kept.add(0);
+            marks.add(0);
             return sums.size() - 1;
         }
 
@@ -1636,15 +1637,21 @@ public final class Patchferry {
                     common += sizes.get(piece);
                 }
             }
+            forgetPieces(otherCut);
             return 200 * common / lengths;
         }
 
+        /** Counts how often each piece stands in a cut; all are 0 between two calls. */
         private void countPieces(Row cut) {
-            marks.clear();
-            marks.resize(sums.size());
             for (int index = 0; index < cut.size(); index++) {
                 int piece = cut.get(index);
                 marks.set(piece, marks.get(piece) + 1);
+            }
+        }
+
+        private void forgetPieces(Row cut) {
+            for (int index = 0; index < cut.size(); index++) {
+                marks.set(cut.get(index), 0);
             }
         }
 
@@ -1706,21 +1713,18 @@ public final class Patchferry {
 
         /** Counts anew how often each piece is used, and looks whether each used one is kept. */
         boolean usesStand() {
-            marks.clear();
-            marks.resize(sums.size());
             for (int file = 0; file < cuts.size(); file++) {
-                Row cut = cutOf(file);
-                for (int index = 0; index < cut.size() && isIn(file); index++) {
-                    marks.set(cut.get(index), marks.get(cut.get(index)) + 1);
+                if (isIn(file)) {
+                    countPieces(cutOf(file));
                 }
             }
+            boolean stand = true;
             for (int piece = 0; piece < sums.size(); piece++) {
                 boolean isLost = marks.get(piece) > 0 && kept.get(piece) == 0;
-                if (isLost || marks.get(piece) != uses.get(piece)) {
-                    return false;
-                }
+                stand = stand && !isLost && marks.get(piece) == uses.get(piece);
+                marks.set(piece, 0);
             }
-            return true;
+            return stand;
         }
     }
 
