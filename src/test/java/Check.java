@@ -49,9 +49,17 @@ final class Check {
             call.run();
         } catch (RuntimeException e) {
             got = e.getClass().getName();
+            isTrue(what + " throws by a statement of its own", isOwn(e));
         }
         same(what + " throws", got, due.getName());
         same(what + " threw; what is left", Picture.of(x), before);
+    }
+
+    /** Thrown by the class itself, not by the machine or the library under it. */
+    static boolean isOwn(Throwable thrown) {
+        StackTraceElement[] stack = thrown.getStackTrace();
+        boolean isHere = stack.length > 0 && stack[0].getClassName().startsWith("Patchferry");
+        return isHere && thrown.getMessage() != null && !thrown.getMessage().startsWith("Index ");
     }
 
     static void report(String line) {

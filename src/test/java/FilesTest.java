@@ -182,13 +182,21 @@ public final class FilesTest {
         Check.same("wipes", Check.word(x, "wipes"), -1);
         Check.same("file", x.file(), 0);
         Check.same("raised and turned", Check.read(x, 0), new int[] {4, 0, 2});
+        for (int k = 0; k < 5; k++) {
+            x.type(k);
+        }
+        Check.word(x, "turn");
+        x.type(9);
+        Check.same("turn of six", Check.word(x, "turn"), 6);
+        x.file();
+        Check.same("turned twice but one", Check.read(x, 1), new int[] {9, 0, 1, 2, 3, 4});
         x.repeat(6, 101);
         x.type(8);
         Check.same("turn of 102", Check.word(x, "turn"), 102);
         Check.same("half of 102", Check.word(x, "half"), 100);
         Check.same("half of 100", Check.word(x, "half"), 100);
         x.file();
-        Check.same("half keeps the beginning", x.at(1, 0), 8);
+        Check.same("half keeps the beginning", x.at(2, 0), 8);
         x.repeat(6, 200);
         Check.same("half of 200", Check.word(x, "half"), 100);
         Check.same("wipe tells what it had", Check.word(x, "wipe"), 100);

@@ -88,6 +88,7 @@ public final class SoundTest {
                 Class<?> thrown = e.getCause().getClass();
                 boolean isListed = java.util.Arrays.asList(method.getExceptionTypes()).contains(thrown);
                 Check.isTrue(call + " throws " + thrown + ", which the document lists", isListed);
+                Check.isTrue(call + " throws by a statement of its own", Check.isOwn(e.getCause()));
                 return "throws " + call;
             } catch (IllegalAccessException e) {
                 Check.report(call + " can not be called");
