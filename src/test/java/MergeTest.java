@@ -14,6 +14,7 @@ public final class MergeTest {
         sameEdits();
         clashes();
         refused();
+        composedPatches();
         tooLong();
         manyMerges();
         Check.end("MergeTest");
@@ -129,6 +130,28 @@ public final class MergeTest {
         Check.same("clash() stays", x.clash(), 0);
     }
 
+    /** Copies of composed patches may begin and end with a changed byte, and lie side by side. */
+    private static void composedPatches() {
+        int[] base = Check.rising(0, 40);
+        int[] first = with(base, 12, 200);
+        int[] second = Check.join(java.util.Arrays.copyOfRange(first, 0, 8), java.util.Arrays.copyOfRange(first, 12, 40));
+        Patchferry x = new Patchferry();
+        Check.put(x, base);
+        Check.put(x, first);
+        Check.put(x, second);
+        Check.put(x, with(base, 30, 99));
+        x.make(0, 1);
+        x.make(1, 2);
+        x.make(0, 3);
+        x.compose(0, 1);
+        Check.same("a copy that begins with a changed byte", Check.text(x, 3), "c0+8 c12+28!1");
+        x.merge(3, 2);
+        Check.same("merged", Check.read(x, 4), with(second, 26, 99));
+        int[] side = with(base, 13, 201);
+        x.make(0, Check.put(x, side));
+        clash(x, 3, 4, 13);
+    }
+
     private static void tooLong() {
         int[] base = Check.rising(0, 100);
         int[] mine = instead(base, 30, 30, Check.row(200, 60));
@@ -147,38 +170,59 @@ public final class MergeTest {
 
     private static void manyMerges() {
         Dice dice = new Dice(5);
-        int merged = 0;
-        int clashed = 0;
+        int[] ends = new int[3];
         for (int round = 0; round < 2500; round++) {
             int[] base = dice.below(3) == 0 ? dice.mixed(80) : dice.bytes(dice.below(120), 256, 0);
             int[] mine = edited(dice, base);
             int[] theirs = dice.below(4) == 0 ? edited(dice, mine) : edited(dice, base);
             Patchferry x = patched(base, mine, theirs);
-            List<Plain.Edit> a = Plain.edits(base, Plain.draw(base, mine));
-            List<Plain.Edit> b = Plain.edits(base, Plain.draw(base, theirs));
-            if (a == null || b == null) {
-                Check.fails("merge with a copy that goes back", x, UNSUPPORTED, () -> x.merge(0, 1));
-                Check.fails("no clash", x, NONE, x::clash);
-                continue;
-            }
-            int clash = Plain.clash(a, b);
-            if (clash >= 0) {
-                clashed++;
-                Check.fails("merge with a clash", x, UNSUPPORTED, () -> x.merge(0, 1));
-                Check.same("clash", x.clash(), clash);
-                continue;
-            }
-            int[] due = Plain.merged(base, a, b);
-            if (due.length > 200) {
-                Check.fails("merge to more than 200", x, STATE, () -> x.merge(0, 1));
-                continue;
-            }
-            merged++;
-            x.merge(0, 1);
-            Check.same("merged", Check.read(x, 3), due);
+            ends[oneMerge(x, 0, 1, base, Plain.draw(base, mine), Plain.draw(base, theirs))]++;
         }
-        Check.isTrue("many merged: " + merged, merged > 400);
-        Check.isTrue("many clashed: " + clashed, clashed > 200);
+        Check.isTrue("many merged: " + ends[0], ends[0] > 400);
+        Check.isTrue("many clashed: " + ends[1], ends[1] > 200);
+        manyComposedMerges(dice);
+    }
+
+    private static void manyComposedMerges(Dice dice) {
+        int[] ends = new int[3];
+        for (int round = 0; round < 800; round++) {
+            int[] base = dice.bytes(40 + dice.below(120), 256, 0);
+            int[] middle = edited(dice, base);
+            int[] mine = edited(dice, middle);
+            int[] theirs = edited(dice, base);
+            Patchferry x = patched(base, middle, theirs);
+            Check.put(x, mine);
+            x.make(1, 3);
+            x.compose(0, 2);
+            List<Plain.Op> composed = Plain.compose(Plain.draw(base, middle), Plain.draw(middle, mine));
+            ends[oneMerge(x, 1, 3, base, Plain.draw(base, theirs), composed)]++;
+        }
+        Check.isTrue("many merged: " + ends[0], ends[0] > 50);
+        Check.isTrue("many clashed: " + ends[1], ends[1] > 50);
+    }
+
+    /** Merges two patches; tells 0 for merged, 1 for a clash, 2 for refused for something else. */
+    private static int oneMerge(Patchferry x, int patch, int other, int[] base, List<Plain.Op> mine, List<Plain.Op> theirs) {
+        List<Plain.Edit> a = Plain.edits(base, mine);
+        List<Plain.Edit> b = Plain.edits(base, theirs);
+        if (a == null || b == null) {
+            Check.fails("merge with a copy that goes back", x, UNSUPPORTED, () -> x.merge(patch, other));
+            Check.fails("no clash", x, NONE, x::clash);
+            return 2;
+        }
+        int clash = Plain.clash(a, b);
+        if (clash >= 0) {
+            Check.fails("merge with a clash", x, UNSUPPORTED, () -> x.merge(patch, other));
+            Check.same("clash", x.clash(), clash);
+            return 1;
+        }
+        int[] due = Plain.merged(base, a, b);
+        if (due.length > 200) {
+            Check.fails("merge to more than 200", x, STATE, () -> x.merge(patch, other));
+            return 2;
+        }
+        Check.same("merged", Check.read(x, x.merge(patch, other)), due);
+        return 0;
     }
 
     private static int[] edited(Dice dice, int[] base) {

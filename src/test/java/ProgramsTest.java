@@ -72,6 +72,10 @@ public final class ProgramsTest {
         Check.put(x, jumps);
         Check.same("66 labels", x.labels(16), 66);
         Check.fails("label to 265 bytes", x, STATE, () -> x.label(16));
+        Check.put(x, Check.join(new int[] {200, 0, 200}, Check.row(1, 197)));
+        Check.same("the end of 200 bytes is a label", x.labels(17), 1);
+        // 1 200 200 0 0 1 .. to 1 200 200 0 0 1 ..: one copy of 202 bytes.
+        Check.same("labelled, it has 202 bytes", x.labelledBytes(17, 17), 8 + 4);
         full(x);
         Check.fails("label with 24 files", x, STATE, () -> x.label(0));
         Check.fails("label of none with 24 files", x, UNSUPPORTED, () -> x.label(7));
