@@ -31,8 +31,13 @@ public final class FaceTest {
         }
         Check.same("the face", String.join("\n", got), String.join("\n", due));
         Check.same("methods of the face", names.size(), 70);
+        for (Class<?> inside : Patchferry.class.getDeclaredClasses()) {
+            for (Method method : inside.getDeclaredMethods()) {
+                hidden.add(method.getName());
+            }
+        }
         hidden.retainAll(names);
-        Check.same("private methods with public names", hidden.toString(), "[]");
+        Check.same("methods with public names that are not the face", hidden.toString(), "[]");
         fields();
         Check.end("FaceTest");
     }
