@@ -85,6 +85,20 @@ final class Check {
         return x.file();
     }
 
+    /** Makes a file by one of the methods that do; files 0 and 1 and patch 0 must go with it. */
+    static int makeBy(Patchferry x, String maker) {
+        switch (maker) {
+            case "file": return x.file();
+            case "apply": return x.apply(0, 0);
+            case "merge": return x.merge(0, 0);
+            case "label": return x.label(0);
+            case "unlabel": return x.unlabel(1);
+            case "pack": return x.pack(0, 1);
+            case "unpack": return x.unpack(0);
+            default: throw new AssertionError(maker);
+        }
+    }
+
     static int[] read(Patchferry x, int file) {
         int[] bytes = new int[x.length(file)];
         for (int k = 0; k < bytes.length; k++) {

@@ -382,6 +382,28 @@ final class Plain {
         return Check.join(new int[] {table.length}, table, program);
     }
 
+    /** Null if it is no labelled program. */
+    static int[] unlabelled(int[] text) {
+        if (text.length == 0 || text.length < 1 + text[0]) {
+            return null;
+        }
+        int[] table = Arrays.copyOfRange(text, 1, 1 + text[0]);
+        int[] program = Arrays.copyOfRange(text, 1 + text[0], text.length);
+        int place = 0;
+        while (place < program.length) {
+            if (program[place] < 200 || program[place] > 203) {
+                place++;
+                continue;
+            }
+            if (place + 3 > program.length || program[place + 1] != 0 || program[place + 2] >= table.length) {
+                return null;
+            }
+            program[place + 2] = table[program[place + 2]];
+            place += 3;
+        }
+        return program;
+    }
+
     static int[] pack(int[] text, int mode) {
         int[] packed = new int[0];
         int place = 0;
