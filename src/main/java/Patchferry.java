@@ -2204,14 +2204,12 @@ public final class Patchferry {
         }
 
         private int climb() {
-            while (sums.size() > 1) {
-                int many = sums.size();
+            for (int many = sums.size(); many > 1; many = (many + 1) / 2) {
                 for (int pair = 0; 2 * pair < many; pair++) {
                     int left = sums.get(2 * pair);
                     int joined = (31 * left + 17 * sums.get(2 * pair + 1) + 3) % SUM_BOUND;
                     sums.set(pair, 2 * pair + 1 < many ? joined : left);
                 }
-                sums.resize((many + 1) / 2);
             }
             return sums.get(0);
         }
